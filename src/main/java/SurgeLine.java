@@ -320,24 +320,21 @@ public final class SurgeLine {
     }
 
     /**
-     * The bits of a double, found by doubling and halving alone, which lose nothing. No sum of the
-     * pipe is ever -0: H and Q are whole numbers, and a difference of like doubles is +0.
+     * The bits of a double, found by doubling alone, which loses nothing. A pressure lies far below
+     * 2 to the 53rd (a step adds some 20000 at most, and there are 999), and it is never -0: H and Q
+     * are whole numbers, and a difference of like doubles is +0.
      */
     private static long bitsOf(double x) {
-        double hidden = (double) (1L << 52);
+        long hidden = 1L << 52;
         double m = x < 0.0 ? -x : x;
-        int e = 0;
-        while (m < hidden && e > -1074) {
+        int exponent = 1075;
+        while (m < (double) hidden && exponent > 1) {
             m = m * 2.0;
-            e--;
-        }
-        while (m >= hidden * 2.0 && e < 971) {
-            m = m / 2.0;
-            e++;
+            exponent--;
         }
         long whole = (long) m;
-        // Below the hidden bit stand 0 and the smallest doubles, whose exponent is told as 0.
-        long bits = m < hidden ? whole : ((long) (e + 1075) << 52) + (whole - (1L << 52));
+        // Without the hidden bit stand 0 and the smallest doubles, whose exponent is told as 0.
+        long bits = whole < hidden ? whole : ((long) exponent << 52) + (whole - hidden);
         return x < 0.0 ? bits | (1L << 63) : bits;
     }
 
