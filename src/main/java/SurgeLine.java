@@ -290,8 +290,7 @@ public final class SurgeLine {
         return spare.highest <= bound;
     }
 
-    /** Does one order of the text, or answers false where its call would refuse. An answer's sign
-     * would not tell that: Q may have been -2. */
+    /** Does one order, or answers false if its call would refuse: its answer tells not, as Q may have been -2. */
     private boolean obey(int letter, int first, int second) {
         if (letter == 's') {
             if (!isStepCount(first) || !hasTimeFor(first)) {
@@ -325,6 +324,9 @@ public final class SurgeLine {
      * are whole numbers, and a difference of like doubles is +0.
      */
     private static long bitsOf(double x) {
+        if (x == 0.0) {
+            return 0L;
+        }
         long hidden = 1L << 52;
         double m = x < 0.0 ? -x : x;
         int exponent = 1075;
@@ -333,7 +335,7 @@ public final class SurgeLine {
             exponent--;
         }
         long whole = (long) m;
-        // Without the hidden bit stand 0 and the smallest doubles, whose exponent is told as 0.
+        // Without the hidden bit stand the smallest doubles, whose exponent is told as 0.
         long bits = whole < hidden ? whole : ((long) exponent << 52) + (whole - hidden);
         return x < 0.0 ? bits | (1L << 63) : bits;
     }
